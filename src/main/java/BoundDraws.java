@@ -289,11 +289,10 @@ public final class BoundDraws {
             return value >= least && value <= most;
         }
 
-        /** For n up to 60: with the lesser of k and n less k no product on the way leaves a long. */
+        /** For n up to 60 and k up to n: no product on the way leaves a long. */
         static long setsOutOf(int n, int k) {
-            int chosen = Math.min(k, n - k);
             long sets = 1;
-            for (int i = 1; i <= chosen; i++) {
+            for (int i = 1; i <= k; i++) {
                 sets = sets * (n - i + 1) / i;
             }
             return sets;
@@ -573,23 +572,21 @@ public final class BoundDraws {
         }
 
         int winsBy(int mark) {
-            int wins = 0;
-            for (int i = 0; i < used; i++) {
-                if (xs[i] >= mark && ys[i] < mark) {
-                    wins++;
-                }
-            }
-            return wins;
+            return reachedAlone(xs, ys, mark);
         }
 
         int lossesBy(int mark) {
-            int losses = 0;
+            return reachedAlone(ys, xs, mark);
+        }
+
+        private int reachedAlone(int[] these, int[] those, int mark) {
+            int many = 0;
             for (int i = 0; i < used; i++) {
-                if (ys[i] >= mark && xs[i] < mark) {
-                    losses++;
+                if (these[i] >= mark && those[i] < mark) {
+                    many++;
                 }
             }
-            return losses;
+            return many;
         }
     }
 
