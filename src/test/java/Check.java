@@ -16,10 +16,6 @@ final class Check {
         compare(what, Long.toString(want), outcome(call));
     }
 
-    void dueThrow(String what, Class<? extends RuntimeException> want, Call call) {
-        compare(what, "throws " + want.getName(), outcome(call));
-    }
-
     void compare(String what, String want, String got) {
         if (want.equals(got)) {
             right++;
@@ -34,7 +30,9 @@ final class Check {
         try {
             return Long.toString(call.answer());
         } catch (RuntimeException e) {
-            return "throws " + e.getClass().getName();
+            // of what the machine throws, a division's alone has a class that the document asks for too
+            String thrower = "/ by zero".equals(e.getMessage()) ? ", but the machine's own" : "";
+            return "throws " + e.getClass().getName() + thrower;
         }
     }
 

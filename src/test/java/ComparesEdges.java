@@ -120,11 +120,19 @@ final class ComparesEdges {
         is(y, 1, 1, 3, 100);
         is(y, 1, 2, 1, 25);
         is(y, 1, 0, 1, 25);
+        // once more, behind one that was greater
+        is(y, 1, 1, 3, 100);
         // just as great: (m + 1 - i) p is 6 / 100 at each place
         Subject z = with(6, 100, 2, 100, 3, 100);
         for (int number = 0; number < 3; number++) {
             is(z, 1, number, 3, 50);
         }
+        // by p, not by what is left of wide products: 30000 times 100000 has more than 31 bits
+        Subject wide = with(30000, 100000, 1, 100000);
+        is(wide, 1, 1, 1, 50000);
+        is(wide, 1, 0, 3, 10);
+        is(wide, 2, 1, 1, 50000);
+        is(wide, 2, 0, 3, 10);
         // next to one another as near as can be: cross products of 10 to the 10-th that differ by 1
         Subject near = with(1, 99999, 1, 100000);
         is(near, 1, 1, 1, 50000);
@@ -142,6 +150,9 @@ final class ComparesEdges {
         for (int number = 0; number < 3; number++) {
             is(y, 2, number, 3, 50);
         }
+        // once more, behind one that was less
+        is(x, 2, 1, 3, 100);
+        is(x, 2, 0, 9, 100);
         // the one ahead is not taken in
         Subject z = with(1, 10, 9, 10);
         is(z, 2, 0, 1, 5);
@@ -174,6 +185,8 @@ final class ComparesEdges {
         for (int way = 0; way <= 2; way++) {
             is(sure, way, 0, 1, 1);
             is(sure, way, 9, 1, 1);
+            is(with(1, 1), way, 0, 1, 1);
+            is(with(99999, 100000), way, 0, 99999, 100000);
         }
     }
 
@@ -260,6 +273,6 @@ final class ComparesEdges {
         Subject without = edges.fresh();
         without.row(3, 5, 1, 1).row(3, 9, 10, 2).row(0, 70, 20, 3).draw(4, 9, false, 3);
         without.begin(1, 4, 1, 8, 1).hit(true, 0).hit(false, 0);
-        edges.isSame("what is left", State.seen(without), State.seen(edges.in(State.SOME).forget(2)));
+        edges.looksLike("SOME, behind forget()", without, edges.in(State.SOME).forget(2));
     }
 }

@@ -1,3 +1,4 @@
+import java.util.List;
 import java.util.TreeSet;
 
 /** Tests of single sentences: each is told with its promise and the document's own words. */
@@ -36,14 +37,28 @@ final class Edges {
     void refused(State state, Subject.Calls calls) {
         Subject refusing = in(state);
         calls.on(refusing);
-        String after = State.seen(refusing);
-        check.compare(heading + ": " + state + ", what is there behind the refused calls", State.seen(in(state)), after);
+        looksLike(state + ", behind the refused calls", in(state), refusing);
     }
 
     void refusedEverywhere(Subject.Calls calls) {
         for (State state : State.values()) {
             refused(state, calls);
         }
+    }
+
+    /** Two objects answer the same to all that can be asked of them. */
+    void looksLike(String what, Subject want, Subject got) {
+        List<String> wanted = State.seen(want);
+        List<String> seen = State.seen(got);
+        int same = 0;
+        while (same < Math.min(wanted.size(), seen.size()) && wanted.get(same).equals(seen.get(same))) {
+            same++;
+        }
+        isSame(what, answerBehind(same, wanted), answerBehind(same, seen));
+    }
+
+    private static String answerBehind(int same, List<String> answers) {
+        return same < answers.size() ? answers.get(same) : "nothing more";
     }
 
     void isSame(String what, String want, String got) {

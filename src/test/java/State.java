@@ -1,3 +1,6 @@
+import java.util.ArrayList;
+import java.util.List;
+
 /** The states in which an edge is looked at: nothing there, something there, all that there is room for. */
 enum State {
     EMPTY {
@@ -36,8 +39,8 @@ enum State {
     abstract void reach(Subject x);
 
     /** All that can be seen of an object, and what it answers to the calls that come then. */
-    static String seen(Subject x) {
-        StringBuilder seen = new StringBuilder();
+    static List<String> seen(Subject x) {
+        List<String> seen = new ArrayList<>();
         counts(x, seen);
         rows(x, seen);
         int means = Integer.parseInt(x.look(of -> of.count(2)));
@@ -46,10 +49,10 @@ enum State {
         nextTries(x, seen);
         nextDraws(x, seen);
         rowsFromTheLast(x, seen);
-        return seen.toString();
+        return seen;
     }
 
-    private static void counts(Subject x, StringBuilder seen) {
+    private static void counts(Subject x, List<String> seen) {
         for (int what = 0; what <= 3; what++) {
             int of = what;
             tell(seen, "count(" + what + ")", x.look(it -> it.count(of)));
@@ -57,7 +60,7 @@ enum State {
         }
     }
 
-    private static void rows(Subject x, StringBuilder seen) {
+    private static void rows(Subject x, List<String> seen) {
         for (int what = 0; what <= 2; what++) {
             int of = what;
             tell(seen, "turned(false, " + what + ")", x.look(it -> it.turned(false, of)));
@@ -69,7 +72,7 @@ enum State {
         }
     }
 
-    private static void means(Subject x, int many, StringBuilder seen) {
+    private static void means(Subject x, int many, List<String> seen) {
         for (int i = 0; i < many; i++) {
             int of = i;
             tell(seen, "drawn(" + i + ", 0)", x.look(it -> it.drawn(of, 0)));
@@ -77,7 +80,7 @@ enum State {
         }
     }
 
-    private static void compares(Subject x, StringBuilder seen) {
+    private static void compares(Subject x, List<String> seen) {
         int many = Integer.parseInt(x.look(of -> of.count(3)));
         for (int number = 0; number < many; number++) {
             for (int way = 0; way <= 2; way++) {
@@ -90,7 +93,7 @@ enum State {
     }
 
     /** The odds and the trust of a TEST are seen only in what tries to come answer. */
-    private static void nextTries(Subject x, StringBuilder seen) {
+    private static void nextTries(Subject x, List<String> seen) {
         for (int i = 0; i < 6; i++) {
             tell(seen, "hit(true)", x.look(it -> it.hit(true)));
             tell(seen, "test(2)", x.look(it -> it.test(2)));
@@ -99,21 +102,21 @@ enum State {
     }
 
     /** Which row stands where is seen only in what is drawn. */
-    private static void nextDraws(Subject x, StringBuilder seen) {
+    private static void nextDraws(Subject x, List<String> seen) {
         tell(seen, "draw(7, 6, false)", x.look(it -> it.draw(7, 6, false)));
         means(x, Math.min(6, Integer.parseInt(x.look(it -> it.count(2)))), seen);
         tell(seen, "draw(7, 6, true)", x.look(it -> it.draw(7, 6, true)));
         means(x, Math.min(6, Integer.parseInt(x.look(it -> it.count(2)))), seen);
     }
 
-    private static void rowsFromTheLast(Subject x, StringBuilder seen) {
+    private static void rowsFromTheLast(Subject x, List<String> seen) {
         for (int i = 0; i < 31; i++) {
             tell(seen, "turned(false, 1)", x.look(it -> it.turned(false, 1)));
             tell(seen, "drop()", x.look(it -> it.drop()));
         }
     }
 
-    private static void tell(StringBuilder seen, String call, String answer) {
-        seen.append(call).append(' ').append(answer).append("; ");
+    private static void tell(List<String> seen, String call, String answer) {
+        seen.add(call + " " + answer);
     }
 }

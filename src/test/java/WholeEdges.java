@@ -33,7 +33,7 @@ final class WholeEdges {
         // made beside another one that has something
         Subject before = edges.fresh();
         edges.in(State.FULL);
-        edges.isSame("a new object beside a full one", State.seen(edges.fresh()), State.seen(before));
+        edges.looksLike("a new object beside a full one", edges.fresh(), before);
     }
 
     private void theLastOfAllCalls() {
@@ -129,17 +129,16 @@ final class WholeEdges {
         edges.in(State.FULL).clear(30).clear(0);
         // there were no rows, but the rest goes all the same
         Subject x = edges.in(State.SOME).drop(2).drop(1).drop(0).clear(0);
-        edges.isSame("what is left", State.seen(edges.fresh()), State.seen(x));
+        edges.looksLike("no rows, behind clear()", edges.fresh(), x);
     }
 
     private void clearAsAtTheBeginning() {
         edges.sentence(21, "All is as at the beginning");
-        String asNew = State.seen(edges.fresh());
-        edges.isSame("EMPTY, cleared", asNew, State.seen(edges.in(State.EMPTY).clear(0)));
-        edges.isSame("SOME, cleared", asNew, State.seen(edges.in(State.SOME).clear(3)));
-        edges.isSame("FULL, cleared", asNew, State.seen(edges.in(State.FULL).clear(30)));
+        edges.looksLike("EMPTY, behind clear()", edges.fresh(), edges.in(State.EMPTY).clear(0));
+        edges.looksLike("SOME, behind clear()", edges.fresh(), edges.in(State.SOME).clear(3));
+        edges.looksLike("FULL, behind clear()", edges.fresh(), edges.in(State.FULL).clear(30));
         Subject again = edges.in(State.FULL).clear(30);
         State.SOME.reach(again);
-        edges.isSame("SOME behind a clear", State.seen(edges.in(State.SOME)), State.seen(again));
+        edges.looksLike("SOME once more, behind clear()", edges.in(State.SOME), again);
     }
 }
