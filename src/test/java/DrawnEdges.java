@@ -26,6 +26,7 @@ final class DrawnEdges {
         it.drawnThrows();
         it.drawnOutside();
         it.percentileUpwards();
+        it.percentileInLowestTerms();
         it.percentileOutside();
         it.percentileNone();
         it.shareCut();
@@ -258,6 +259,16 @@ final class DrawnEdges {
         stands(two, 1, 2, 0);
         stands(two, 501, 1000, 1);
         stands(two, 1, 1, 1);
+    }
+
+    private void percentileInLowestTerms() {
+        edges.sentence(12, "Fractions are in lowest terms, told by side: 0 the upper number, 1 the lower one"
+                + " (0 is 0 / 1).");
+        // by the seed 5 the middle ones are 0
+        withUpAndDown().draw(5, 7, false, 2).percentile(0, 1, 0, -1).percentile(0, 1, 1, 1)
+                .percentile(1, 2, 0, 0).percentile(1, 2, 1, 1).percentile(1, 1, 0, 1).percentile(1, 1, 1, 1);
+        edges.fresh().row(0, 0, 2, 1).row(0, 0, 4, 2).draw(0, 1, false, 2).percentile(1, 2, 0, -3)
+                .percentile(1, 2, 1, 1);
     }
 
     private void percentileOutside() {

@@ -98,6 +98,11 @@ final class HitsEdges {
     }
 
     private void aboveOdds() {
+        edges.sentence(2, "(down at least 1, up 0 to down)");
+        edges.fresh().above(1, 1, 0, 1, 0, 0, 0).above(1, 1, 1, 1, 0, 0, 1).above(1, 1, 0, 2, 0, 0, 0)
+                .above(1, 1, 2, 2, 0, 0, 2).above(1, 1, 0, 0, 0, 0, OUTSIDE).above(1, 1, 2, 1, 0, 0, OUTSIDE)
+                .above(1, 1, -1, 1, 0, 0, OUTSIDE).above(1, 1, 3, 2, 0, 0, OUTSIDE);
+
         edges.sentence(2, "down not 1 to 1000");
         edges.refusedEverywhere(x -> {
             x.above(3, 1, 0, 0, 0, 0, OUTSIDE).above(0, 0, 0, 0, 0, 0, OUTSIDE).above(3, 1, 1, 0, 0, 0, OUTSIDE);

@@ -19,12 +19,14 @@ final class RowsEdges {
         it.dropNone();
         it.turnedSigns();
         it.turnedAtLeast();
+        it.sumOfAll();
         it.turnedAsFar();
         it.turnedGroups();
         it.turnedOutside();
         it.winsByMark();
         it.winsOutside();
         it.evenTwiceTheOdds();
+        it.evenInLowestTerms();
         it.evenOutside();
     }
 
@@ -152,6 +154,15 @@ final class RowsEdges {
         withDifferences(half).turned(false, 1, (1L << 29) - 155117520 / 2);
     }
 
+    private void sumOfAll() {
+        edges.sentence(7, "S is the sum of all DIFFERENCES.");
+        // rows and GROUPS have the same S, though not the same signs: of 100, -99 and 1 in all 2, or of 1 and 1
+        edges.fresh().row(0, 100, 0, 1).row(0, 0, 99, 2).row(1, 1, 0, 3).turned(false, 1, 3).turned(false, 2, 6)
+                .turned(true, 1, 1).turned(true, 2, 2);
+        edges.fresh().row(0, 0, 100, 1).row(0, 99, 0, 2).row(1, 0, 1, 3).turned(false, 1, 6).turned(false, 2, 6)
+                .turned(true, 1, 4).turned(true, 2, 2);
+    }
+
     private void turnedAsFar() {
         edges.sentence(7, "2 in how many it is as far from 0 as S at least.");
         edges.fresh().turned(false, 2, 1).turned(true, 2, 1);
@@ -268,6 +279,16 @@ final class RowsEdges {
         evenIs(withDifferences(all), 9, ((1 << 30) - 155117520) / 16, (1 << 30) / 16);
         all[14] = -9;
         evenIs(withDifferences(all), 9, 1, 1);
+    }
+
+    private void evenInLowestTerms() {
+        edges.sentence(9, "Fractions are in lowest terms, told by side: 0 the upper number, 1 the lower one"
+                + " (0 is 0 / 1).");
+        // 2 / 4, 2 / 8, 12 / 32 and 16 / 128
+        evenIs(withDifferences(9, 9), 9, 1, 2);
+        evenIs(withDifferences(9, 9, 9), 9, 1, 4);
+        evenIs(withDifferences(9, 9, 9, 9, -9), 9, 3, 8);
+        evenIs(withDifferences(9, 9, 9, 9, 9, 9, -9), 9, 1, 8);
     }
 
     private void evenOutside() {
