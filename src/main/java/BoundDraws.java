@@ -1,7 +1,8 @@
 /**
  * What rows of trials bear, with a told trust: odds of hits as wide wholes, bounds of what lies
- * behind them, pairs compared by turned signs, rows and groups drawn anew by a seed, several
- * compares put right, and a test that may be looked at behind each try.
+ * behind them, pairs compared by turned signs, counted all; hits and misses against one another;
+ * rows and groups drawn anew by a seed; several compares put right; and a test that may be looked
+ * at behind each try.
  *
  * <p>All that a call needs is made with the object and used again, so that no call makes anything
  * but the exception that the document asks for.

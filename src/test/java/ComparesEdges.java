@@ -96,7 +96,7 @@ final class ComparesEdges {
     }
 
     private void raisedByMany() {
-        edges.sentence(15, "(all with m, how many there are; 1, if it is above): 0: each is m p.");
+        edges.sentence(15, "RAISED (all with m, how many there are; 1, if it is above): 0: each is m p.");
         Subject x = with(3, 100);
         is(x, 0, 0, 3, 100);
         x.compare(1, 100, 1);

@@ -73,7 +73,8 @@ final class DrawnEdges {
     }
 
     private void drawWraps() {
-        edges.sentence(10, "x is the seed first; a DRAW below m: x becomes x * 6364136223846793005 +"
+        edges.sentence(10, "DRAWN ANEW, so many times, by a seed: x is the seed first; a DRAW below m: x becomes x *"
+                + " 6364136223846793005 +"
                 + " 1442695040888963407 (64 bits, wrapping), and it is x &gt;&gt;&gt; 33, modulo m.");
         // twice three draws each, the second time with the x that the first one left
         meansAre(withOneTenHundred(), 3, 0, 37, 70);

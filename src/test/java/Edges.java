@@ -65,11 +65,11 @@ final class Edges {
         check.compare(heading + ": " + what, want, got);
     }
 
-    /** Each promise has its tests, and each of its sentences. */
+    /** Each promise has its tests, and each of its sentences and of the terms'. */
     void end() {
-        check.compare("promises with tests of their sentences", "21", "" + promises.size());
+        check.compare("promises with tests of their sentences", "" + Document.PROMISES, "" + promises.size());
         if (document.isThere()) {
-            check.compare("sentences of promises that no test quotes", "[]", "" + document.unquoted());
+            check.compare("sentences of terms and promises that no test quotes", "[]", "" + document.unquoted());
         }
     }
 }

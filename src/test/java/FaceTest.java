@@ -1,12 +1,17 @@
+import java.io.IOException;
 import java.lang.reflect.Constructor;
 import java.lang.reflect.Field;
 import java.lang.reflect.Method;
 import java.lang.reflect.Modifier;
+import java.nio.file.Files;
+import java.nio.file.Path;
 import java.util.ArrayList;
 import java.util.Arrays;
 import java.util.HashSet;
 import java.util.List;
 import java.util.Set;
+import java.util.regex.Matcher;
+import java.util.regex.Pattern;
 
 /** The public face is the document's and no more; and what of LANGUAGE.md a compiled class shows. */
 final class FaceTest {
@@ -41,10 +46,11 @@ final class FaceTest {
         "public static final int BoundDraws.NONE",
     };
 
-    public static void main(String[] args) {
+    public static void main(String[] args) throws IOException {
         theClass();
         theMembersThatCanBeSeen();
         theNestedClasses();
+        asTheDocumentWritesIt();
         CHECK.end();
     }
 
@@ -81,6 +87,38 @@ final class FaceTest {
             constructors.add(constructor.toString());
         }
         same("constructors", new String[] {"public BoundDraws()"}, constructors);
+    }
+
+    /** The names of parameters, and what stands ahead of the calls, are seen in the source alone. */
+    private static void asTheDocumentWritesIt() throws IOException {
+        Document document = new Document();
+        if (!document.isThere()) {
+            return;
+        }
+        List<String> source = Files.readAllLines(Path.of("src", "main", "java", "BoundDraws.java"));
+        source.replaceAll(String::trim);
+        for (String line : document.face()) {
+            String due = line.endsWith(");") || line.contains(") throws ") ? line.replace(";", " {") : line;
+            CHECK.due("lines of the class that are: " + due, 1, () -> source.stream().filter(due::equals).count());
+        }
+        CHECK.compare("what stands ahead of the calls", String.join("\n", document.headings()),
+                String.join("\n", headings(source)));
+    }
+
+    private static List<String> headings(List<String> source) {
+        List<String> headings = new ArrayList<>();
+        Pattern call = Pattern.compile("public (?:int|long) (\\w+)\\(.*");
+        for (String line : source) {
+            Matcher named = call.matcher(line);
+            if (line.startsWith("// ---- ")) {
+                headings.add(line.substring("// ---- ".length()) + ":");
+            } else if (named.matches()) {
+                int last = headings.size() - 1;
+                String ahead = last < 0 ? "nothing:" : headings.remove(last);
+                headings.add(ahead + (ahead.endsWith(":") ? " " : ", ") + named.group(1));
+            }
+        }
+        return headings;
     }
 
     private static void theNestedClasses() {

@@ -13,7 +13,10 @@ final class HitsEdges {
 
     static void run(Edges edges) {
         HitsEdges it = new HitsEdges(edges);
+        it.eachByItself();
+        it.overAllWays();
         it.whichHitsCount();
+        it.sumOfSets();
         it.nothingToTheNothing();
         it.limbs();
         it.aboveTries();
@@ -29,8 +32,74 @@ final class HitsEdges {
         it.boundOfSeveral();
     }
 
+    private void eachByItself() {
+        edges.sentence(2, "Of n tries each is a hit with odds up / down (down at least 1, up 0 to down), by itself.");
+        for (int up = 0; up <= 7; up++) {
+            for (int n = 0; n <= 8; n++) {
+                Subject x = edges.fresh();
+                for (int k = 0; k <= n; k++) {
+                    x.above(n, k, up, 7, 0, 0, eachWay(n, k, n, up, 7));
+                    x.above(n, k, up, 7, 1, 0, eachWay(n, 0, k, up, 7));
+                }
+            }
+        }
+    }
+
+    /** Each row of hits and misses by itself: what its tries have, one times the other. */
+    private static long eachWay(int n, int least, int most, int up, int down) {
+        long sum = 0;
+        for (int way = 0; way < 1 << n; way++) {
+            long product = 1;
+            for (int i = 0; i < n; i++) {
+                product *= (way >> i & 1) == 1 ? up : down - up;
+            }
+            sum += Integer.bitCount(way) >= least && Integer.bitCount(way) <= most ? product : 0;
+        }
+        return sum;
+    }
+
+    private void overAllWays() {
+        edges.sentence(2, "is the whole number which over down to the power n is what that has for odds");
+        // k or more and at most k less 1 are all there is: down to the power n, whatever the odds are
+        BigInteger all = BigInteger.valueOf(997).pow(30);
+        for (int up : new int[] {0, 1, 331, 996, 997}) {
+            for (int k : new int[] {1, 2, 15, 29, 30}) {
+                Subject x = edges.fresh();
+                edges.isSame(up + " / 997, " + k + " of 30", all.toString(),
+                        wholeOf(x, k, up, 0).add(wholeOf(x, k - 1, up, 1)).toString());
+            }
+        }
+        // 4 of 8, 19 of 27, 1 of 100 and 100 of 10000: odds() tells each as just that
+        edges.fresh().above(3, 2, 1, 2, 0, 0, 4).odds(3, 2, 1, 2, 0, 4, 8, 1).odds(3, 2, 1, 2, 0, 1, 2, 1)
+                .above(3, 1, 1, 3, 0, 0, 19).odds(3, 1, 1, 3, 0, 19, 27, 1)
+                .above(2, 2, 1, 10, 0, 0, 1).odds(2, 2, 1, 10, 0, 1, 100, 1)
+                .above(2, 2, 10, 100, 0, 0, 100).odds(2, 2, 10, 100, 0, 1, 100, 1);
+    }
+
+    private static BigInteger wholeOf(Subject x, int k, int up, int side) {
+        BigInteger whole = BigInteger.ZERO;
+        for (int limb = 10; limb >= 0; limb--) {
+            int i = limb;
+            whole = whole.shiftLeft(32).add(new BigInteger(x.look(of -> of.above(30, k, up, 997, side, i))));
+        }
+        return whole;
+    }
+
+    private void sumOfSets() {
+        edges.sentence(2, "the sum, of all numbers i of hits that count, of (how many sets of i out of n there are)"
+                + " times up to the i-th, times (down less up) to the (n less i)-th (0 to the 0-th is 1).");
+        // by 1 / 2 the sets alone: 30 out of 30, 29 or 30, and so on, with 155117520 of 15
+        edges.fresh().above(30, 30, 1, 2, 0, 0, 1).above(30, 29, 1, 2, 0, 0, 31).above(30, 28, 1, 2, 0, 0, 466)
+                .above(30, 0, 1, 2, 1, 0, 1).above(30, 1, 1, 2, 1, 0, 31).above(30, 2, 1, 2, 1, 0, 466)
+                .above(30, 15, 1, 2, 0, 0, (1 << 29) + 155117520 / 2)
+                .above(30, 14, 1, 2, 1, 0, (1 << 29) - 155117520 / 2);
+        // by 3 / 7: 3 to the third times 4, and 4 to the third times 3, for each of 4 sets
+        edges.fresh().above(4, 4, 3, 7, 0, 0, 81).above(4, 3, 3, 7, 0, 0, 81 + 4 * 27 * 4)
+                .above(4, 0, 3, 7, 1, 0, 256).above(4, 1, 3, 7, 1, 0, 256 + 4 * 64 * 3);
+    }
+
     private void whichHitsCount() {
-        edges.sentence(2, "of k or more hits (side 0), of at most k (side 1)");
+        edges.sentence(2, "THE ABOVE of k or more hits (side 0), of at most k (side 1)");
         // by 1 / 3, of 3 tries: 8, 12, 6 and 1 ways for 0 to 3 hits
         long[] orMore = {27, 19, 7, 1};
         long[] atMost = {8, 20, 26, 27};
@@ -288,7 +357,7 @@ final class HitsEdges {
         });
         edges.fresh().bound(1, 0, 0, 1, 1000, 999).bound(1, 0, 0, 999, 1000, 1).bound(1, 0, 0, 1, 2, 500);
 
-        edges.sentence(4, "(0 less than a, a less than b)");
+        edges.sentence(4, "A TRUST a / b (0 less than a, a less than b) bounds from above");
         edges.refusedEverywhere(x -> x.boundThrows(1, 0, 0, 0, 20).boundThrows(1, 0, 0, 20, 20)
                 .bound(1, 0, 0, 1, 20, 950).bound(1, 0, 0, 19, 20, 50));
     }

@@ -14,10 +14,12 @@ final class RowsEdges {
         RowsEdges it = new RowsEdges(edges);
         it.rowCounts();
         it.rowOutside();
+        it.differences();
         it.rowFull();
         it.dropCounts();
         it.dropNone();
         it.turnedSigns();
+        it.turnedEitherWay();
         it.turnedAtLeast();
         it.sumOfAll();
         it.turnedAsFar();
@@ -26,6 +28,7 @@ final class RowsEdges {
         it.winsByMark();
         it.winsOutside();
         it.evenTwiceTheOdds();
+        it.evenAsOfTries();
         it.evenInLowestTerms();
         it.evenOutside();
     }
@@ -76,6 +79,16 @@ final class RowsEdges {
                 .wins(100, 0, 1).wins(100, 1, 1);
     }
 
+    private void differences() {
+        edges.sentence(5, "and have two numbers x and y; its DIFFERENCE is x less y.");
+        int[][] rows = {{5, 3, 2}, {3, 5, -2}, {100, 0, 100}, {0, 100, -100}, {0, 0, 0}, {100, 100, 0}, {1, 0, 1}};
+        for (int[] row : rows) {
+            // the mean of the one row is its difference, and so is S
+            edges.fresh().row(4, row[0], row[1], 1).draw(1, 1, false, 1).drawn(0, 0, row[2]).drawn(0, 1, 1)
+                    .turned(false, 0, row[2] == 0 ? 0 : 1).turned(false, 1, row[2] < 0 ? 2 : 1);
+        }
+    }
+
     private void rowFull() {
         edges.sentence(5, "0 to 100; FULL.");
         edges.refused(State.FULL, x -> x.row(0, 0, 0, FULL).row(7, 100, 100, FULL).row(3, 50, 1, FULL));
@@ -124,6 +137,19 @@ final class RowsEdges {
         withDifferences(-1).turned(false, 1, 2);
         withDifferences(same(30, -1)).turned(false, 1, 1L << 30).turned(true, 1, 1 << 8);
         withDifferences(same(30, 0)).turned(false, 1, 1).turned(true, 1, 1);
+    }
+
+    private void turnedEitherWay() {
+        edges.sentence(7, "TURNED: each UNIT of a DIFFERENCE that is not 0 has it as it is, or with the other sign");
+        // of 1, 2 and 4 with all signs the sums are the odd numbers from 7 down to -7, each once
+        for (int way = 0; way < 8; way++) {
+            int one = (way & 1) == 0 ? 1 : -1;
+            int two = (way & 2) == 0 ? 2 : -2;
+            int four = (way & 4) == 0 ? 4 : -4;
+            int s = one + two + four;
+            withDifferences(one, two, 0, four).turned(false, 0, 3).turned(false, 1, (7 - s) / 2 + 1)
+                    .turned(false, 2, 2 * ((7 - Math.abs(s)) / 2 + 1)).turned(true, 1, (7 - s) / 2 + 1);
+        }
     }
 
     private void turnedAtLeast() {
@@ -215,7 +241,7 @@ final class RowsEdges {
     }
 
     private void winsByMark() {
-        edges.sentence(8, "a row is a WIN, if x is t at least and y is not; a LOSS, if y is and x is not.");
+        edges.sentence(8, "By a MARK t a row is a WIN, if x is t at least and y is not; a LOSS, if y is and x is not.");
         edges.fresh().row(0, 50, 49, 1)
                 .wins(49, 0, 0).wins(50, 0, 1).wins(51, 0, 0).wins(49, 1, 0).wins(50, 1, 0).wins(51, 1, 0);
         edges.fresh().row(0, 49, 50, 1)
@@ -279,6 +305,23 @@ final class RowsEdges {
         evenIs(withDifferences(all), 9, ((1 << 30) - 155117520) / 16, (1 << 30) / 16);
         all[14] = -9;
         evenIs(withDifferences(all), 9, 1, 1);
+    }
+
+    private void evenAsOfTries() {
+        edges.sentence(9, "With w WINS and l LOSSES THE ODDS of these are the lesser of 1 and twice the odds, of w and"
+                + " l tries by 1 / 2, of the lesser one or fewer hits.");
+        for (int w = 0; w <= 15; w++) {
+            for (int l = 0; l <= 15; l++) {
+                int[] all = same(w + l, 9);
+                java.util.Arrays.fill(all, 0, l, -9);
+                long ways = 1L << w + l;
+                long twice = Math.min(ways, 2 * Model.aboveOf(w + l, Math.min(w, l), 1, 2, 1).longValue());
+                // ways are a power of 2, so that what twice has in common with them is one too
+                long common = Math.min(ways, Long.lowestOneBit(twice));
+                Subject x = withDifferences(all).wins(9, 0, w).wins(9, 1, l);
+                evenIs(x, 9, twice / common, ways / common);
+            }
+        }
     }
 
     private void evenInLowestTerms() {

@@ -16,6 +16,7 @@ final class TrialEdges {
         it.beginOutside();
         it.beginThrows();
         it.beginOfSeveral();
+        it.hitsOneBehindTheOther();
         it.hitWealthAtLeast();
         it.hitFromThenOn();
         it.hitNone();
@@ -82,6 +83,17 @@ final class TrialEdges {
         edges.sentence(17, "Codes, of several the first one that a call names");
         edges.refusedEverywhere(x -> x.begin(1, 1, 0, 0, OUTSIDE).begin(1, 101, 2, 2, OUTSIDE)
                 .begin(0, 2, 1, 1, OUTSIDE).begin(2, 2, 1, 1001, OUTSIDE));
+    }
+
+    private void hitsOneBehindTheOther() {
+        edges.sentence(18, "with a TRUST a / b: tries come one behind the other.");
+        // the same tries, but not as they came: a hit has just 2, with a miss ahead of it 16 / 18
+        edges.fresh().begin(1, 4, 1, 2, 1).hit(true, 1).hit(false, 1).test(0, 2).test(1, 1).test(2, 1).test(3, 0);
+        edges.fresh().begin(1, 4, 1, 2, 1).hit(false, 0).hit(true, 0).test(0, 2).test(1, 1).test(2, 0).test(3, 0);
+        // calls that come between are no tries
+        edges.fresh().begin(1, 4, 3, 16, 1).hit(true, 0).row(0, 1, 1, 1).draw(1, 1, false, 1).compare(1, 2, 0)
+                .begin(0, 4, 1, 2, OUTSIDE).beginThrows(1, 4, 0, 2).drop(0).forget(1)
+                .test(0, 1).hit(true, 1).test(2, 2);
     }
 
     private void hitWealthAtLeast() {
